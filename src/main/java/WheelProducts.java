@@ -267,7 +267,7 @@ public final class WheelProducts {
         return true;
     }
 
-    /** Puts the different primes that divide a number (2 to 2 to the 31) into factors: how many. */
+    /** Puts the different primes that divide a number (below 2 to the 31) into factors: how many. */
     private int findFactors(long number) {
         int count = 0;
         long remaining = number;
@@ -404,8 +404,8 @@ public final class WheelProducts {
             left[k] = left[k] * right[k] % prime;
         }
         turnBackward(left, n);
+        Arrays.fill(to, 0L);
         System.arraycopy(left, 0, to, 0, n);
-        Arrays.fill(to, n, COEFFICIENTS, 0L);
     }
 
     // ---- words

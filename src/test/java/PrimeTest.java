@@ -93,9 +93,9 @@ public final class PrimeTest {
             Long.MIN_VALUE, Long.MIN_VALUE + 1, -7681, -511, -1, 0, 1, 2, 3, 257, 512, 513, 7680, 7682,
             // 1 more than a multiple of 256 but not of 512, prime
             769, 3329,
-            // Mersenne's, the first above the bound, and such as fit only when cut to 32 bits
-            2147483647L, 2147483648L, 2147483649L, 3221225473L, 4294967296L + 7681, Long.MAX_VALUE,
-            7681L * 12289, 7681L * 7681, 17L * 241 * 4096 + 1,
+            // p - 1 is no multiple; from 2 to the 31 on, three of them primes; fits only when cut to 32 bits
+            2147483647L, 2147483648L, 2147483649L, 2147484161L, 2281701377L, 3221225473L, 4294967296L + 7681, Long.MAX_VALUE,
+            7681L * 12289, 7681L * 7681,
             // not prime, yet they answer Fermat's test as primes do until their least divisor
             12801, 3224065, 14676481, 23382529, 214852609, 939947009, 1200778753, 2097317377L,
             // not prime, yet 2 answers Fermat's test
