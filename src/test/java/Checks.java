@@ -4,17 +4,43 @@ final class Checks {
         void run();
     }
 
-    private static int wrong = 0;
+    static final Class<IndexOutOfBoundsException> OUTSIDE = IndexOutOfBoundsException.class;
+    static final Class<IllegalArgumentException> ILLEGAL = IllegalArgumentException.class;
+    static final Class<UnsupportedOperationException> NO_ROOM = UnsupportedOperationException.class;
+
+    private static int sentences = 0;
     private static int made = 0;
+    private static int wrong = 0;
+    private static String words = "";
 
     private Checks() {
+    }
+
+    /** A test of its own for one sentence of the document; a sentence without a check proves nothing. */
+    static void sentence(String sentence, Call test) {
+        words = sentence;
+        sentences++;
+        int before = made;
+        try {
+            test.run();
+        } catch (RuntimeException e) {
+            wrong("threw " + e);
+        }
+        if (made == before) {
+            wrong("checked nothing");
+        }
+        words = "";
+    }
+
+    private static void wrong(String what) {
+        wrong++;
+        System.out.println("[" + words + "] " + what);
     }
 
     static void same(String what, long got, long due) {
         made++;
         if (got != due) {
-            wrong++;
-            System.out.println(what + " answered " + got + ", due is " + due);
+            wrong(what + " answered " + got + ", due is " + due);
         }
     }
 
@@ -27,8 +53,7 @@ final class Checks {
         Class<?> got = thrownBy(call);
         made++;
         if (got != due) {
-            wrong++;
-            System.out.println(what + " threw " + got + ", due is " + due);
+            wrong(what + " threw " + got + ", due is " + due);
         }
     }
 
@@ -41,8 +66,33 @@ final class Checks {
         }
     }
 
+    /** All that can be seen after the calls is what the slow Model has after them. */
+    static void state(String what, State.Calls calls) {
+        sameState(what, State.after(calls), State.dueAfter(calls));
+    }
+
+    /** After the setup, the call throws what is due, and all that can be seen is as before. */
+    static void refused(String what, Class<? extends RuntimeException> due, State.Calls setup, State.Calls call) {
+        Wheel x = new Wheel();
+        setup.on(x);
+        thrown(what, due, () -> call.on(x));
+        State after = State.after(y -> {
+            setup.on(y);
+            thrownBy(() -> call.on(y));
+        });
+        sameState(what + " is refused and changes nothing:", after, State.dueAfter(setup));
+    }
+
+    private static void sameState(String what, State got, State due) {
+        made++;
+        String difference = got.difference(due);
+        if (difference != null) {
+            wrong(what + " " + difference);
+        }
+    }
+
     static void end() {
-        System.out.println(made + " checks, " + wrong + " wrong");
+        System.out.println(sentences + " sentences, " + made + " checks, " + wrong + " wrong");
         if (wrong != 0) {
             System.exit(1);
         }

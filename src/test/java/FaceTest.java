@@ -28,14 +28,18 @@ public final class FaceTest {
 
     public static void main(String[] args) {
         Class<?> face = WheelProducts.class;
+        Checks.sentence("The public face: its methods", () -> methods(face));
+        Checks.sentence("The public face: its constant", () -> fields(face));
+        Checks.sentence("The public face: its class and constructor", () -> madeBy(face));
+        Checks.end();
+    }
+
+    private static void madeBy(Class<?> face) {
         Checks.same("public and final", face.getModifiers(), Modifier.PUBLIC | Modifier.FINAL);
-        methods(face);
-        fields(face);
         Constructor<?>[] constructors = face.getDeclaredConstructors();
         Checks.same("constructors", constructors.length, 1);
         Checks.same("constructor is public", constructors[0].getModifiers(), Modifier.PUBLIC);
         Checks.same("constructor's parameters", constructors[0].getParameterCount(), 0);
-        Checks.end();
     }
 
     private static void methods(Class<?> face) {
@@ -74,16 +78,20 @@ public final class FaceTest {
     }
 
     private static void fields(Class<?> face) {
+        boolean found = false;
         for (Field field : face.getDeclaredFields()) {
             int modifiers = field.getModifiers();
             if (field.getName().equals("NONE")) {
+                found = true;
                 Checks.same("NONE", modifiers, Modifier.PUBLIC | Modifier.STATIC | Modifier.FINAL);
                 Checks.same("NONE is an int", field.getType() == int.class, true);
+                Checks.same("NONE is -1", WheelProducts.NONE, -1);
             } else {
                 Checks.same(field.getName() + " is private", Modifier.isPrivate(modifiers), true);
             }
             boolean kept = Modifier.isStatic(modifiers) && !Modifier.isFinal(modifiers);
             Checks.same(field.getName() + " is static state", kept, false);
         }
+        Checks.same("NONE is there", found, true);
     }
 }

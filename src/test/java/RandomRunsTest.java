@@ -11,7 +11,7 @@ public final class RandomRunsTest {
         Long.MIN_VALUE, Long.MAX_VALUE};
 
     private final Random random;
-    private final WheelProducts x = new WheelProducts();
+    private final Wheel x = new Wheel();
     private final Model model = new Model();
 
     private RandomRunsTest(long seed) {
@@ -19,13 +19,17 @@ public final class RandomRunsTest {
     }
 
     public static void main(String[] args) {
+        Checks.sentence("Promises 1 to 16: all mixed, 512 calls an object", RandomRunsTest::runs);
+        Checks.end();
+    }
+
+    private static void runs() {
         for (int run = 0; run < 300; run++) {
             RandomRunsTest test = new RandomRunsTest(run);
             for (int call = 0; call < 512; call++) {
                 test.oneCall("run " + run + ", call " + call + ": ");
             }
         }
-        Checks.end();
     }
 
     private int index() {
@@ -82,28 +86,8 @@ public final class RandomRunsTest {
         long[] due = new long[1];
         long[] got = new long[1];
         Class<?> dueThrown = Checks.thrownBy(() -> due[0] = model.call(name, a, b, c));
-        Class<?> gotThrown = Checks.thrownBy(() -> got[0] = call(name, a, b, c));
+        Class<?> gotThrown = Checks.thrownBy(() -> got[0] = x.call(name, a, b, c));
         Checks.same(what + " threw " + gotThrown + " (due " + dueThrown + "), same", gotThrown == dueThrown, true);
         Checks.same(what, got[0], due[0]);
-    }
-
-    private long call(String name, long a, long b, long c) {
-        switch (name) {
-            case "field": return x.field(a);
-            case "times": return x.times(a, b);
-            case "power": return x.power(a, b);
-            case "inverse": return x.inverse(a);
-            case "put": return x.put((int) a, (int) b, c) ? 1 : 0;
-            case "get": return x.get((int) a, (int) b);
-            case "length": return x.length((int) a);
-            case "turn": x.turn((int) a, (int) b, c == 1); return 0;
-            case "product": return x.product((int) a, (int) b, (int) c);
-            case "at": return x.at((int) a, b);
-            case "word": return x.word((int) a, (int) b, c) ? 1 : 0;
-            case "wordAt": return x.wordAt((int) a, (int) b);
-            case "size": return x.size((int) a);
-            case "multiply": return x.multiply((int) a, (int) b, (int) c);
-            default: return x.sum((int) a, (int) b, (int) c);
-        }
     }
 }
