@@ -69,6 +69,17 @@ public final class MultiplyTest {
             Setups.mixed(x);
             x.multiply(0, 3, 3);
         });
+        Checks.state("a great product, then a small one", x -> {
+            Setups.number(x, 0, Setups.allBits(120));
+            x.word(1, 0, -1);
+            x.multiply(2, 0, 0);
+            x.multiply(2, 1, 1);
+        });
+        Checks.state("a great sum, then a small product", x -> {
+            Setups.mixed(x);
+            x.sum(2, 0, 5);
+            x.multiply(2, 1, 1);
+        });
     }
 
     /** Naturals 0 to 5 of the setup have sizes 240, 1, 121, 120, 240 and 0. */

@@ -158,10 +158,13 @@ public final class PrimeTest {
     private static void leastRoot() {
         long[][] rootOf = {{12289, 11}, {469762049L, 3}, {167772161L, 3}, {754974721L, 11}, {2113929217L, 5},
             {2013265921L, 31}, {1811939329L, 13},
-            // The least root is no prime: each lesser one fails though its own divisors do not tell so.
-            {340481, 6}, {147457, 10}, {232961, 12}, {176641, 14}, {32257, 15}, {838657, 20}, {1644690433L, 40},
-            // The greatest least roots that there are, and a p - 1 with the most different divisors.
-            {1289871361L, 103}, {338764801L, 104}, {152076289L, 106}, {130690561L, 23}};
+            // The least root is no prime, so none of the primes that divide it is a root.
+            {340481, 6}, {147457, 10}, {176641, 14}, {32257, 15}, {838657, 20}, {1644690433L, 40},
+            // Only the greatest prime that divides p - 1 tells that a lesser number is none; the last two
+            // p - 1 have seven such primes, the most that there are.
+            {232961, 12}, {4523521, 23}, {23493121, 26}, {325839361, 37}, {130690561L, 23},
+            // The greatest least roots that there are.
+            {1289871361L, 103}, {338764801L, 104}, {152076289L, 106}};
         for (long[] pair : rootOf) {
             takes(pair[0], pair[1]);
         }
@@ -215,6 +218,9 @@ public final class PrimeTest {
                 Checks.same("times(" + given + ", 1)", x.times(given, 1), rest);
                 Checks.same("times(1, " + given + ")", x.times(1, given), rest);
                 Checks.same("power(" + given + ", 1)", x.power(given, 1), rest);
+                if (rest != 0) {
+                    Checks.same("inverse(" + given + ")", x.inverse(given), x.inverse(rest));
+                }
                 x.put(0, 1, given);
                 Checks.same("put of " + given, x.get(0, 1), rest);
                 x.put(0, 1, 1);

@@ -105,6 +105,11 @@ public final class ProductTest {
             Setups.mixed(x);
             x.product(0, 2, 1);
         });
+        Checks.state("a great product, then a small one", x -> {
+            Setups.mixed(x);
+            x.product(5, 2, 4);
+            x.product(5, 1, 1);
+        });
         Wheel x = new Wheel();
         x.put(0, 511, 9);
         x.put(0, 1, 9);

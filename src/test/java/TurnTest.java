@@ -83,9 +83,18 @@ public final class TurnTest {
         }
     }
 
-    /** With p - 1 everywhere each sum is as great as it can be. */
+    /** With 1 and p - 1 a sum is p itself; with p - 1 everywhere each is as great as it can be. */
     private static void sumsWrap() {
         for (long p : Setups.PRIMES) {
+            for (boolean back : new boolean[] {false, true}) {
+                Wheel y = new Wheel();
+                y.field(p);
+                y.put(0, 0, 1);
+                y.put(0, 1, -1);
+                y.turn(0, 2, back);
+                Checks.same("1 and p - 1 modulo " + p + ", the sum", y.get(0, 0), 0);
+                Checks.same("1 and p - 1 modulo " + p + ", the difference", y.get(0, 1), back ? 1 : 2);
+            }
             for (int n = 1; n <= 256; n *= 2) {
                 Wheel x = new Wheel();
                 x.field(p);
