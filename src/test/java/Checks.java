@@ -1,3 +1,5 @@
+import java.util.List;
+
 /** What the tests share: each wrong answer is printed, and a test with one ends with exit code 1. */
 final class Checks {
     interface Call {
@@ -46,6 +48,13 @@ final class Checks {
 
     static void same(String what, boolean got, boolean due) {
         same(what, got ? 1L : 0L, due ? 1L : 0L);
+    }
+
+    static void same(String what, List<String> got, List<String> due) {
+        made++;
+        if (!got.equals(due)) {
+            wrong(what + " answered " + got + ", due is " + due);
+        }
     }
 
     /** The exact class is compared: one below it would be thrown by the machine. */
